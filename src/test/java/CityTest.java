@@ -9,6 +9,7 @@ public final class CityTest {
         leastAndFirst();
         whatStays();
         readAnew();
+        readBehindOthers();
         Due.end("CityTest");
     }
 
@@ -155,6 +156,9 @@ public final class CityTest {
         x.days(3);
         x.bribe(1, 1);
         x.image(1);
+        // What was foretold ahead of a text is no part of what it tells.
+        x.rota(3, -1);
+        x.fits(0, 5, 0, 9, 0);
         x.set(5, 9, 0);
         Due.due("7: another city", Due.read(x, Due.PAIR), 2);
         Due.due("7: status() stays", x.status(), 2);
@@ -168,5 +172,25 @@ public final class CityTest {
         Due.due("7: as the image kept it", x.count(3), 3);
         Due.due("7: as the image kept it", x.count(1), 6);
         Due.due("5: rows stay", x.drop(5), 9);
+    }
+
+    /** A tape may be full to its last byte, and bytes of a longer tape before may lie behind its end. */
+    private static void readBehindOthers() {
+        StringBuilder figures = new StringBuilder("c");
+        for (int i = 1; i < 100; i++) {
+            figures.append('2');
+        }
+        ClueLeave x = new ClueLeave();
+        Due.due("7: 99 figures", Due.read(x, figures.toString()), -1000101);
+        Due.due("8: fault()", x.fault(), 1);
+        Due.due("7: c2, figures behind its end", Due.read(x, "c2"), -1000102);
+        Due.due("7: c2,", Due.read(x, "c2,"), -1000103);
+        Due.due("7: c2,0", Due.read(x, "c2,0"), -1000104);
+        Due.due("7: c2,0;", Due.read(x, "c2,0;"), 0);
+        // Six clues of two figures each, and blanks up to the last byte: the first of them is none.
+        String text = "c6,6;t63,04,03;g63,04,03;v63,04,03;s63,04,03;a63,04,03;t63,04,03;";
+        Due.due("7: the widest text", Due.read(x, text), 6);
+        Due.due("7: a full tape", Due.read(x, text + " ".repeat(100 - text.length())), -1000100 - text.length());
+        Due.due("8: fault()", x.fault(), 1);
     }
 }

@@ -92,6 +92,23 @@ public final class ForetoldTest {
         Due.due("17: rota(2, 1)", x.rota(2, 1), 0);
         Due.due("17: rota(14, -1)", x.rota(14, -1), 5);
         Due.due("17: nothing changes", x.clue(1, 2), 1);
+        Due.due("17: others than the first", x.rota(1, 1), 1);
+        Due.read(x, "c2,0;t3,2,1;s1,4,3;");
+        x.bribe(1, 1);
+        Due.due("17: never sure", x.rota(5, -1), 0);
+        Due.due("17: never sure, the first", x.rota(5, 0), 0);
+        Due.due("17: never sure, the first", x.rota(5, 1), 0);
+        Due.read(x, "c3,1;t1,2,0;t6,2,0;");
+        Due.due("17: the first is at work alone", x.rota(1, -1), 1);
+        Due.due("17: the first is at work alone", x.rota(1, 0), 1);
+        Due.due("17: the second is off", x.rota(1, 1), 0);
+        // Each of six stains rules out another one: sure are the days on which just one is off, three of four at most.
+        Due.read(x, "c6,1;s1,4,3;s2,4,3;s4,4,3;s8,4,3;s16,4,3;s32,4,3;");
+        Due.due("17: six suspects", x.rota(4, -1), 3);
+        int[] off = {0, 0, 0, 1, 2, 3};
+        for (int k = 0; k < 6; k++) {
+            Due.due("17: off of " + k, x.rota(4, k), off[k]);
+        }
         ClueLeave y = Due.of("c2,0;");
         Due.due("17: no clue", y.rota(14, -1), 0);
         Due.due("17: no clue", y.rota(14, 0), Due.NONE);
@@ -187,6 +204,12 @@ public final class ForetoldTest {
         Due.due("20: the stain is off", y.clash(0, 1), 1 + 4);
         Due.due("20: all others are off", y.clash(1, 1), 1 + 2);
         Due.due("20: enough is as much", y.enough(0, 1), 1 + 4);
+        ClueLeave z = Due.of("c2,0;t1,4,0;a1,2,0;");
+        z.days(1);
+        Due.due("20: from day 1 on", z.clash(0, 0), 2);
+        Due.due("20: on day 2", z.clash(1, 0), 2);
+        Due.due("20: on day 4", z.clash(3, 0), Due.NONE);
+        Due.due("19: on day 4", z.enough(3, 1), 2);
     }
 
     private static void tell(ClueLeave x, int row, int... items) {
@@ -335,6 +358,12 @@ public final class ForetoldTest {
         fraction(z, 0, 5, 63, 64);
         fraction(z, 99, 9, 468559, 1000000);
         fraction(z, 1, 10, 0, 1);
+        x.days(1);
+        fraction(x, 1, 5, 0, 1);
+        fraction(x, 2, 5, 1, 4);
+        x.days(2);
+        fraction(x, 2, 5, 1, 4);
+        fraction(x, 0, 3, 49, 100);
     }
 
     /**
