@@ -15,6 +15,7 @@ public final class BoundsAskedTest {
         asRefused();
         asFound();
         bodies();
+        nearest();
         widest();
         askedAnew();
         askRefused();
@@ -140,6 +141,22 @@ public final class BoundsAskedTest {
         ask(a, 5, 0, -74, 14, 13, 10);
         ask(a, 0, 1, 198, 23, 20, 14, 13, 10);
         ask(a, 5, 1, 79, 23, 20, 14, 13, 10);
+    }
+
+    private static void nearest() {
+        Due.sentence("the BODY told for the KIND begins, else that of the nearest KIND that it is, too, else the one that is lent");
+        String sorts = "tgvsa";
+        int[][] begins = {{11, 21}, {12, 24}, {11, 22}, {13, 23}, {14, 23}};
+        for (int kind = 0; kind < 5; kind++) {
+            ClueLeave x = six(sorts.charAt(kind));
+            for (int what = 0; what <= 1; what++) {
+                for (int c : new int[] {0, 5}) {
+                    x.ask(c, what);
+                    Due.due("what begins ask(" + c + ", " + what + ") of " + sorts.charAt(kind), x.trace(0),
+                        begins[kind][what]);
+                }
+            }
+        }
     }
 
     private static void widest() {

@@ -221,6 +221,13 @@ public final class BoundsForetoldTest {
             ClueLeave x = Due.of("c2,0;t1,4,2;t1,4,2;t1,4,2;");
             Due.due("rota(2, " + k + ") of three", x.rota(2, k), k < 2 ? 0 : k == 2 ? 1 : Due.NONE);
         }
+        ClueLeave never = Due.of("c6,0;s1,4,0;s2,4,0;s4,4,0;s8,4,0;s16,4,0;t63,4,0;");
+        Due.due("off of the first, of sure days", never.rota(3, 0), 3);
+        never.bribe(0, 1);
+        Due.due("never sure", never.rota(3, -1), 0);
+        for (int k = 0; k <= 5; k++) {
+            Due.due("never sure: the first of all, " + k, never.rota(3, k), 0);
+        }
         Twins.told("rota(1, -1) without clues", x -> x.rota(1, -1), 0, BARE);
         Twins.told("rota(14, -1) without clues", x -> x.rota(14, -1), 0, BARE);
     }
@@ -330,6 +337,9 @@ public final class BoundsForetoldTest {
         y.bribe(5, 1);
         Due.due("one is bribed: five", y.enough(0, 1), 31);
         Due.due("of several the least", Due.of("c2,0;t1,2,1;t1,2,1;").enough(0, 1), 1);
+        ClueLeave z = Due.of("c3,0;t3,2,1;t6,2,1;t2,2,1;s5,2,1;");
+        Due.due("one alone is fewer than two ahead of it", z.enough(0, 0), 1);
+        Due.due("of two that are one alone the least", z.enough(0, 1), 4);
     }
 
     private static void clash() {
@@ -353,6 +363,9 @@ public final class BoundsForetoldTest {
         Due.due("one alone, the stain being off", y.clash(0, 1), 4);
         Due.due("one alone, of several the least", y.clash(1, 1), 2);
         Due.due("one alone", y.clash(1, 0), 1);
+        ClueLeave w = Due.of("c2,0;t1,2,1;t2,2,1;s3,2,1;t3,2,1;s3,2,1;");
+        Due.due("one alone is fewer than two ahead of it", w.clash(0, 0), 1);
+        Due.due("of two that are one alone the least", w.clash(0, 1), 4);
         ClueLeave z = Due.of("c2,0;t1,2,0;t2,2,1;");
         Due.due("never at work together", z.clash(0, 0), Due.NONE);
         Due.due("never at work together", z.clash(1, 1), Due.NONE);
@@ -481,6 +494,24 @@ public final class BoundsForetoldTest {
                 }
             }
         }
+        // Day 59 of the first 84 is not sure, all others are, by suspect 1; so is day 1067.
+        ClueLeave rare = Due.of("c2,3;" + RARE);
+        int[] culprits = culprits(999999, 60, 2);
+        int him = 0;
+        for (int d = 0; d < 59; d++) {
+            him += culprits[d];
+        }
+        Due.due("drawn(60, ..), the last day is not sure", rare.drawn(60, 999999, 0), him);
+        Due.due("drawn(60, ..), by another", rare.drawn(60, 999999, 1), 59 - him);
+        toDay(rare, 59);
+        Due.due("drawn(1, ..) on day 59", rare.drawn(1, 1, 0) + rare.drawn(1, 1, 1), 0);
+        Due.due("drawn(2, ..) on day 59", rare.drawn(2, 1, 0) + rare.drawn(2, 1, 1), 1);
+        // 16807 leaves 1 by 2, and the next, 282475249, too.
+        Due.due("by him on day 60", rare.drawn(2, 1, 0), 1);
+        rare.days(1);
+        Due.due("drawn(60, ..) on day 60", rare.drawn(60, 1, 0) + rare.drawn(60, 1, 1), 60);
+        toDay(rare, 999);
+        Due.due("drawn(60, ..) on day 999", rare.drawn(60, 1, 0) + rare.drawn(60, 1, 1), 60);
         // 16807 leaves 2 by 5: day 3 of MID is sure by suspect 2.
         Twins.told("drawn(1, 1, 0)", x -> x.drawn(1, 1, 0), 1, MID);
         Twins.told("drawn(1, 1, 1)", x -> x.drawn(1, 1, 1), 0, MID);
